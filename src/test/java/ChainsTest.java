@@ -1,0 +1,122 @@
+import java.util.ArrayList;
+import java.util.Arrays;
+import java.util.List;
+import java.util.Random;
+
+/** Chains of all kinds against the reference, cut in all ways: the output and all counts behind each piece. */
+public final class ChainsTest {
+    private static final int[] STARTS = {0, 1, 2, 3, 4, 0x1000, 0x7FFFFFF0, -1, -2, -4, -100, 0x00FFFFF0, 0x00FFF003};
+    private static final int[][] COMMON = {
+        {0xE8, 0xE9, 0x00, 0xFF, 0x90, 0x01, 0xFE},
+        {0xE8, 0xE8, 0xE9, 0x00, 0xFF, 0x05, 0xFA},
+        {0xEB, 0x00, 0xFF, 0xFE, 0xEA, 0x12},
+        {0xF0, 0xF7, 0xF8, 0xFF, 0x00, 0x12, 0xF3, 0xFC},
+        {0x48, 0x4B, 0x49, 0x01, 0xFD, 0x00, 0xFF, 0x02},
+        {0x40, 0x7F, 0x00, 0x3F, 0xC0, 0xFF, 0x12},
+        {0xEF, 0x00, 0x02, 0xFF, 0x97, 0x67, 0xE7, 0x80, 0x03},
+    };
+
+    public static void main(String[] args) {
+        Check check = new Check();
+        Random random = new Random(20261115);
+        for (int kind = 0; kind < 8; kind++) {
+            for (int i = 0; i < 150; i++) {
+                int[] kinds = new int[4];
+                kinds[random.nextInt(4)] = kind;
+                oneRun(check, random, kinds, code(random, kind, 20 + random.nextInt(120)));
+            }
+        }
+        for (int i = 0; i < 600; i++) {
+            int[] kinds = {random.nextInt(8), random.nextInt(8), random.nextInt(8), random.nextInt(8)};
+            oneRun(check, random, kinds, code(random, kinds[random.nextInt(4)], 20 + random.nextInt(120)));
+        }
+        for (int i = 0; i < 300; i++) {
+            thereAndBack(check, random);
+        }
+        check.end();
+    }
+
+    private static void oneRun(Check check, Random random, int[] kinds, int[] in) {
+        int[] distances = new int[4];
+        BranchFilters x = new BranchFilters();
+        for (int f = 0; f < 4; f++) {
+            distances[f] = 1 + random.nextInt(32);
+            x.filter(f, kinds[f], distances[f]);
+        }
+        int start = random.nextInt(3) == 0 ? random.nextInt() : STARTS[random.nextInt(STARTS.length)];
+        boolean encoding = random.nextBoolean();
+        x.begin(start, encoding);
+        int most = 1 + random.nextInt(16);
+        String what = Arrays.toString(kinds) + " from " + start + (encoding ? " encoding " : " decoding ") + Check.hex(in);
+        List<Integer> came = new ArrayList<>();
+        for (int from = 0; from < in.length; ) {
+            int many = Math.min(random.nextInt(most + 1), in.length - from);
+            int answer = Check.feedPiece(x, in, from, many);
+            for (int i = 0; i < many; i++) {
+                came.add(in[from + i]);
+            }
+            from += many;
+            compare(check, what, x, answer, kinds, distances, start, encoding, came, false);
+        }
+        compare(check, what, x, x.finish(), kinds, distances, start, encoding, came, true);
+    }
+
+    private static void compare(Check check, String what, BranchFilters x, int answer, int[] kinds, int[] distances,
+            int start, boolean encoding, List<Integer> came, boolean finish) {
+        String[] counts = new String[4];
+        List<Integer> due = Reference.run(kinds, distances, start, encoding, came, finish, counts);
+        check.same(what + ", answer", answer, due.size());
+        check.same(what, Check.hex(Check.outputs(x)), Check.hex(due.stream().mapToInt(b -> b).toArray()));
+        for (int f = 0; f < 4; f++) {
+            check.same(what + ", counts of " + f, Check.counts(x, f), counts[f]);
+        }
+    }
+
+    // With START and all places a multiple of four nothing is lost: decoding gives back what was encoded.
+    private static void thereAndBack(Check check, Random random) {
+        int[] kinds = {random.nextInt(8), random.nextInt(8), random.nextInt(8), random.nextInt(8)};
+        int[] in = code(random, kinds[random.nextInt(4)], 200);
+        BranchFilters x = new BranchFilters();
+        for (int f = 0; f < 4; f++) {
+            x.filter(f, kinds[f], 1 + random.nextInt(32));
+        }
+        int start = random.nextInt() & ~3;
+        x.begin(start, true);
+        Check.feed(x, in, 1 + random.nextInt(16));
+        check.same("as many as came", x.finish(), in.length);
+        int[] encoded = Check.outputs(x);
+        x.begin(start, false);
+        Check.feed(x, encoded, 1 + random.nextInt(16));
+        x.finish();
+        check.same(Arrays.toString(kinds) + " there and back", Check.hex(Check.outputs(x)), Check.hex(in));
+    }
+
+    private static int[] code(Random random, int kind, int size) {
+        int[] bytes = new int[size];
+        int[] common = COMMON[kind < 2 ? random.nextInt(COMMON.length) : kind == 2 ? random.nextInt(2) : kind - 1];
+        int strange = random.nextInt(4);
+        for (int i = 0; i < size; i++) {
+            bytes[i] = random.nextInt(10) < strange ? random.nextInt(256) : common[random.nextInt(common.length)];
+        }
+        for (int i = 0; kind == 7 && i + 8 <= size; i += 2 + 2 * random.nextInt(5)) {
+            int r = random.nextInt(32);
+            int w = random.nextInt() << 12 | r << 7 | (random.nextBoolean() ? 0x17 : 0x6F);
+            int v = random.nextInt() << 20 | (random.nextInt(4) == 0 ? 3 : r) << 15 | random.nextInt(256) << 7
+                    | (random.nextBoolean() ? 0x67 : random.nextBoolean() ? 0x03 : 0x13);
+            for (int k = 0; k < 4; k++) {
+                bytes[i + k] = w >>> 8 * k & 255;
+                bytes[i + 4 + k] = v >>> 8 * k & 255;
+            }
+        }
+        for (int i = 0; kind >= 3 && kind <= 6 && i + 4 <= size; i += 2 + 2 * random.nextInt(4)) {
+            int[][] heads = {{-1, -1, -1, 0xEB}, {-1, 0xF0 | random.nextInt(8), -1, 0xF8 | random.nextInt(8)},
+                {0x48 | random.nextInt(4), -1, -1, random.nextInt(64) * 4 + 1},
+                random.nextBoolean() ? new int[] {0x40, random.nextInt(64), -1, -1} : new int[] {0x7F, 192 + random.nextInt(64), -1, -1}};
+            for (int k = 0; k < 4; k++) {
+                int head = heads[kind - 3][k];
+                bytes[i + k] = head < 0 ? random.nextInt(256) : head;
+            }
+        }
+        return bytes;
+    }
+}

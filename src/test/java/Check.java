@@ -1,0 +1,127 @@
+import java.util.Arrays;
+
+/** What the tests share: comparing, feeding bytes that are written in hex, and looking at all that came out. */
+final class Check {
+    private int wrong = 0;
+
+    void same(String what, long got, long want) {
+        if (got != want) {
+            tell(what + " answered " + got + ", due is " + want);
+        }
+    }
+
+    void same(String what, String got, String want) {
+        if (!got.equals(want)) {
+            tell(what + " gave " + got + ", due is " + want);
+        }
+    }
+
+    void throwsIt(String what, Class<? extends RuntimeException> due, Runnable call) {
+        try {
+            call.run();
+        } catch (RuntimeException e) {
+            if (e.getClass() != due) {
+                tell(what + " threw " + e.getClass().getName() + ", due is " + due.getName());
+            }
+            return;
+        }
+        tell(what + " threw nothing, due is " + due.getName());
+    }
+
+    void illegalArgument(String what, Runnable call) {
+        throwsIt(what, IllegalArgumentException.class, call);
+    }
+
+    void illegalState(String what, Runnable call) {
+        throwsIt(what, IllegalStateException.class, call);
+    }
+
+    void indexOutOfBounds(String what, Runnable call) {
+        throwsIt(what, IndexOutOfBoundsException.class, call);
+    }
+
+    /** One filter of the kind in a chain: the bytes in come out as these, with so many numbers put in. */
+    void oneFilter(int kind, int start, boolean encoding, String in, String due, int replaced) {
+        String what = "kind " + kind + ", start " + start + (encoding ? ", encoding " : ", decoding ") + in;
+        BranchFilters x = new BranchFilters();
+        x.filter(0, kind, 1);
+        x.begin(start, encoding);
+        feed(x, bytes(in), 16);
+        x.finish();
+        same(what, hex(outputs(x)), hex(bytes(due)));
+        same(what + ": numbers put in", x.count(0, 4), replaced);
+    }
+
+    /** Encoding gives these bytes, and decoding gives the first ones back. */
+    void thereAndBack(int kind, int start, String plain, String encoded, int replaced) {
+        oneFilter(kind, start, true, plain, encoded, replaced);
+        oneFilter(kind, start, false, encoded, plain, replaced);
+    }
+
+    void end() {
+        if (wrong != 0) {
+            System.out.println(wrong + " answers are not as due");
+            System.exit(1);
+        }
+    }
+
+    private void tell(String text) {
+        wrong++;
+        if (wrong <= 50) {
+            System.out.println(text);
+        }
+    }
+
+    /** Feeds all bytes in pieces of the size told, and answers what the last feed answered. */
+    static int feed(BranchFilters x, int[] bytes, int piece) {
+        int answer = 0;
+        for (int from = 0; from < bytes.length; from += piece) {
+            answer = feedPiece(x, bytes, from, Math.min(piece, bytes.length - from));
+        }
+        return answer;
+    }
+
+    static int feedPiece(BranchFilters x, int[] bytes, int from, int many) {
+        int[] numbers = new int[4];
+        for (int i = 0; i < many; i++) {
+            numbers[i / 4] |= bytes[from + i] << (24 - 8 * (i % 4));
+        }
+        return x.feed(many, numbers[0], numbers[1], numbers[2], numbers[3]);
+    }
+
+    static int[] outputs(BranchFilters x) {
+        int[] all = new int[2001];
+        int size = 0;
+        while (x.output(size) != BranchFilters.NONE) {
+            all[size] = x.output(size);
+            size++;
+        }
+        return Arrays.copyOf(all, size);
+    }
+
+    static int[] bytes(String hex) {
+        String close = hex.replace(" ", "");
+        int[] bytes = new int[close.length() / 2];
+        for (int i = 0; i < bytes.length; i++) {
+            bytes[i] = Integer.parseInt(close.substring(2 * i, 2 * i + 2), 16);
+        }
+        return bytes;
+    }
+
+    static String hex(int[] bytes) {
+        StringBuilder text = new StringBuilder();
+        for (int b : bytes) {
+            text.append(text.length() == 0 ? "" : " ").append(String.format("%02X", b));
+        }
+        return text.toString();
+    }
+
+    /** All six counts of a filter, as one text. */
+    static String counts(BranchFilters x, int filter) {
+        StringBuilder text = new StringBuilder();
+        for (int what = 0; what <= 5; what++) {
+            text.append(what == 0 ? "" : " ").append(x.count(filter, what));
+        }
+        return text.toString();
+    }
+}
