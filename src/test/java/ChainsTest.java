@@ -92,13 +92,27 @@ public final class ChainsTest {
     }
 
     private static int[] code(Random random, int kind, int size) {
+        int[] bytes = mixed(random, kind, size);
+        if (kind == 7) {
+            putRiscPairs(random, bytes);
+        } else if (kind >= 3) {
+            putBranches(random, kind, bytes);
+        }
+        return bytes;
+    }
+
+    private static int[] mixed(Random random, int kind, int size) {
         int[] bytes = new int[size];
         int[] common = COMMON[kind < 2 ? random.nextInt(COMMON.length) : kind == 2 ? random.nextInt(2) : kind - 1];
         int strange = random.nextInt(4);
         for (int i = 0; i < size; i++) {
             bytes[i] = random.nextInt(10) < strange ? random.nextInt(256) : common[random.nextInt(common.length)];
         }
-        for (int i = 0; kind == 7 && i + 8 <= size; i += 2 + 2 * random.nextInt(5)) {
+        return bytes;
+    }
+
+    private static void putRiscPairs(Random random, int[] bytes) {
+        for (int i = 0; i + 8 <= bytes.length; i += 2 + 2 * random.nextInt(5)) {
             int r = random.nextInt(32);
             int w = random.nextInt() << 12 | r << 7 | (random.nextBoolean() ? 0x17 : 0x6F);
             int v = random.nextInt() << 20 | (random.nextInt(4) == 0 ? 3 : r) << 15 | random.nextInt(256) << 7
@@ -108,15 +122,23 @@ public final class ChainsTest {
                 bytes[i + 4 + k] = v >>> 8 * k & 255;
             }
         }
-        for (int i = 0; kind >= 3 && kind <= 6 && i + 4 <= size; i += 2 + 2 * random.nextInt(4)) {
-            int[][] heads = {{-1, -1, -1, 0xEB}, {-1, 0xF0 | random.nextInt(8), -1, 0xF8 | random.nextInt(8)},
-                {0x48 | random.nextInt(4), -1, -1, random.nextInt(64) * 4 + 1},
-                random.nextBoolean() ? new int[] {0x40, random.nextInt(64), -1, -1} : new int[] {0x7F, 192 + random.nextInt(64), -1, -1}};
-            for (int k = 0; k < 4; k++) {
-                int head = heads[kind - 3][k];
-                bytes[i + k] = head < 0 ? random.nextInt(256) : head;
-            }
+    }
+
+    private static void putBranches(Random random, int kind, int[] bytes) {
+        for (int i = 0; i + 4 <= bytes.length; i += 2 + 2 * random.nextInt(4)) {
+            int[] branch = branch(random, kind);
+            System.arraycopy(branch, 0, bytes, i, 4);
         }
-        return bytes;
+    }
+
+    private static int[] branch(Random random, int kind) {
+        int[] b = {random.nextInt(256), random.nextInt(256), random.nextInt(256), random.nextInt(256)};
+        boolean back = random.nextBoolean();
+        switch (kind) {
+            case 3: return new int[] {b[0], b[1], b[2], 0xEB};
+            case 4: return new int[] {b[0], 0xF0 | b[1] & 7, b[2], 0xF8 | b[3] & 7};
+            case 5: return new int[] {0x48 | b[0] & 3, b[1], b[2], b[3] & 0xFC | 1};
+            default: return new int[] {back ? 0x7F : 0x40, back ? b[1] | 0xC0 : b[1] & 0x3F, b[2], b[3]};
+        }
     }
 }
