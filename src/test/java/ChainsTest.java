@@ -1,9 +1,8 @@
-import java.util.ArrayList;
 import java.util.Arrays;
 import java.util.List;
 import java.util.Random;
 
-/** Chains of all kinds against the reference, cut in all ways: the output and all counts behind each piece. */
+/** Chains of all kinds against the reference, cut in all ways: each answer, the output, and the counts on the way. */
 public final class ChainsTest {
     private static final int[] STARTS = {0, 1, 2, 3, 4, 0x1000, 0x7FFFFFF0, -1, -2, -4, -100, 0x00FFFFF0, 0x00FFF003};
     private static final int[][] COMMON = {
@@ -15,6 +14,30 @@ public final class ChainsTest {
         {0x40, 0x7F, 0x00, 0x3F, 0xC0, 0xFF, 0x12},
         {0xEF, 0x00, 0x02, 0xFF, 0x97, 0x67, 0xE7, 0x80, 0x03},
     };
+
+    // An object has 512 calls: so many looks at all counts are left beside the pieces and the output.
+    private static final int LOOKS = 8;
+
+    private final Check check;
+    private final int[] kinds;
+    private final int[] distances;
+    private final int start;
+    private final boolean encoding;
+    private final int[] in;
+    private final BranchFilters x = new BranchFilters();
+
+    private ChainsTest(Check check, int[] kinds, int[] distances, int start, boolean encoding, int[] in) {
+        this.check = check;
+        this.kinds = kinds;
+        this.distances = distances;
+        this.start = start;
+        this.encoding = encoding;
+        this.in = in;
+        for (int f = 0; f < 4; f++) {
+            x.filter(f, kinds[f], distances[f]);
+        }
+        x.begin(start, encoding);
+    }
 
     public static void main(String[] args) {
         Check check = new Check();
@@ -38,44 +61,46 @@ public final class ChainsTest {
 
     private static void oneRun(Check check, Random random, int[] kinds, int[] in) {
         int[] distances = new int[4];
-        BranchFilters x = new BranchFilters();
         for (int f = 0; f < 4; f++) {
             distances[f] = 1 + random.nextInt(32);
-            x.filter(f, kinds[f], distances[f]);
         }
         int start = random.nextInt(3) == 0 ? random.nextInt() : STARTS[random.nextInt(STARTS.length)];
-        boolean encoding = random.nextBoolean();
-        x.begin(start, encoding);
-        int most = 1 + random.nextInt(16);
-        String what = Arrays.toString(kinds) + " from " + start + (encoding ? " encoding " : " decoding ") + Check.hex(in);
-        List<Integer> came = new ArrayList<>();
-        for (int from = 0; from < in.length; ) {
-            int many = Math.min(random.nextInt(most + 1), in.length - from);
-            int answer = Check.feedPiece(x, in, from, many);
-            for (int i = 0; i < many; i++) {
-                came.add(in[from + i]);
-            }
-            from += many;
-            compare(check, what, x, answer, kinds, distances, start, encoding, came, false);
-        }
-        compare(check, what, x, x.finish(), kinds, distances, start, encoding, came, true);
+        new ChainsTest(check, kinds, distances, start, random.nextBoolean(), in).run(random);
     }
 
-    private static void compare(Check check, String what, BranchFilters x, int answer, int[] kinds, int[] distances,
-            int start, boolean encoding, List<Integer> came, boolean finish) {
+    private void run(Random random) {
+        int most = 1 + random.nextInt(16);
+        int looks = LOOKS;
+        for (int from = 0; from < in.length; ) {
+            int many = Math.min(random.nextInt(8) == 0 ? 0 : 1 + random.nextInt(most), in.length - from);
+            int answer = Check.feedPiece(x, in, from, many);
+            from += many;
+            boolean look = looks > 0 && random.nextInt(in.length) < LOOKS * most;
+            looks -= look ? 1 : 0;
+            compare(answer, from, false, look, from == in.length);
+        }
+        compare(x.finish(), in.length, true, true, true);
+    }
+
+    private void compare(int answer, int came, boolean finish, boolean withCounts, boolean withOutput) {
+        String what = Arrays.toString(kinds) + " from " + start + (encoding ? " encoding " : " decoding ") + Check.hex(in)
+                + (finish ? " finished" : " behind " + came);
         String[] counts = new String[4];
-        List<Integer> due = Reference.run(kinds, distances, start, encoding, came, finish, counts);
-        check.same(what + ", answer", answer, due.size());
-        check.same(what, Check.hex(Check.outputs(x)), Check.hex(due.stream().mapToInt(b -> b).toArray()));
-        for (int f = 0; f < 4; f++) {
+        List<Integer> first = Arrays.stream(in).limit(came).boxed().toList();
+        List<Integer> due = Reference.run(kinds, distances, start, encoding, first, finish, counts);
+        check.same(what, answer, due.size());
+        for (int f = 0; withCounts && f < 4; f++) {
             check.same(what + ", counts of " + f, Check.counts(x, f), counts[f]);
+        }
+        if (withOutput) {
+            check.same(what, Check.output(x), Check.hex(due.stream().mapToInt(b -> b).toArray()));
         }
     }
 
     // With START and all places a multiple of four nothing is lost: decoding gives back what was encoded.
     private static void thereAndBack(Check check, Random random) {
         int[] kinds = {random.nextInt(8), random.nextInt(8), random.nextInt(8), random.nextInt(8)};
-        int[] in = code(random, kinds[random.nextInt(4)], 200);
+        int[] in = code(random, kinds[random.nextInt(4)], 180);
         BranchFilters x = new BranchFilters();
         for (int f = 0; f < 4; f++) {
             x.filter(f, kinds[f], 1 + random.nextInt(32));
@@ -88,7 +113,7 @@ public final class ChainsTest {
         x.begin(start, false);
         Check.feed(x, encoded, 1 + random.nextInt(16));
         x.finish();
-        check.same(Arrays.toString(kinds) + " there and back", Check.hex(Check.outputs(x)), Check.hex(in));
+        check.same(Arrays.toString(kinds) + " there and back", Check.output(x), Check.hex(in));
     }
 
     private static int[] code(Random random, int kind, int size) {

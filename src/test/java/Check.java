@@ -1,8 +1,16 @@
-import java.util.Arrays;
+import java.util.ArrayList;
+import java.util.List;
+import java.util.function.IntSupplier;
 
 /** What the tests share: comparing, feeding bytes that are written in hex, and looking at all that came out. */
 final class Check {
     private int wrong = 0;
+    private String sentence = "";
+
+    /** The words of the document that the checks behind this hold the class to. */
+    void sentence(String words) {
+        sentence = words;
+    }
 
     void same(String what, long got, long want) {
         if (got != want) {
@@ -43,10 +51,7 @@ final class Check {
     /** One filter of the kind in a chain: the bytes in come out as these, with so many numbers put in. */
     void oneFilter(int kind, int start, boolean encoding, String in, String due, int replaced) {
         String what = "kind " + kind + ", start " + start + (encoding ? ", encoding " : ", decoding ") + in;
-        BranchFilters x = new BranchFilters();
-        x.filter(0, kind, 1);
-        x.begin(start, encoding);
-        feed(x, bytes(in), 16);
+        BranchFilters x = fed(kind, start, encoding, in);
         x.finish();
         same(what, hex(outputs(x)), hex(bytes(due)));
         same(what + ": numbers put in", x.count(0, 4), replaced);
@@ -56,6 +61,18 @@ final class Check {
     void thereAndBack(int kind, int start, String plain, String encoded, int replaced) {
         oneFilter(kind, start, true, plain, encoded, replaced);
         oneFilter(kind, start, false, encoded, plain, replaced);
+    }
+
+    /** The bytes go through as they are, both ways, with no number put in. */
+    void untouched(int kind, int start, String... ins) {
+        for (String in : ins) {
+            thereAndBack(kind, start, in, in, 0);
+        }
+    }
+
+    /** The counts of one filter of the kind behind these bytes, before the finish. */
+    void countsBehind(int kind, String in, String due) {
+        same("kind " + kind + ", counts behind " + in, counts(fed(kind, 0, true, in), 0), due);
     }
 
     void end() {
@@ -68,8 +85,17 @@ final class Check {
     private void tell(String text) {
         wrong++;
         if (wrong <= 50) {
-            System.out.println(text);
+            System.out.println((sentence.isEmpty() ? "" : "[" + sentence + "] ") + text);
         }
+    }
+
+    /** A new object whose filter 0 is of the kind, with the bytes fed and no finish yet. */
+    static BranchFilters fed(int kind, int start, boolean encoding, String in) {
+        BranchFilters x = new BranchFilters();
+        x.filter(0, kind, 1);
+        x.begin(start, encoding);
+        feed(x, bytes(in), 16);
+        return x;
     }
 
     /** Feeds all bytes in pieces of the size told, and answers what the last feed answered. */
@@ -81,6 +107,10 @@ final class Check {
         return answer;
     }
 
+    static int feed(BranchFilters x, String in) {
+        return feed(x, bytes(in), 16);
+    }
+
     static int feedPiece(BranchFilters x, int[] bytes, int from, int many) {
         int[] numbers = new int[4];
         for (int i = 0; i < many; i++) {
@@ -89,14 +119,32 @@ final class Check {
         return x.feed(many, numbers[0], numbers[1], numbers[2], numbers[3]);
     }
 
+    /** All bytes of the output, by words as far as they go: an object has 512 calls alone. */
     static int[] outputs(BranchFilters x) {
-        int[] all = new int[2001];
-        int size = 0;
-        while (x.output(size) != BranchFilters.NONE) {
-            all[size] = x.output(size);
-            size++;
+        List<Integer> all = new ArrayList<>();
+        while (addWord(x, all)) {
+            continue;
         }
-        return Arrays.copyOf(all, size);
+        for (int b = x.output(all.size()); b != BranchFilters.NONE; b = x.output(all.size())) {
+            all.add(b);
+        }
+        return all.stream().mapToInt(b -> b).toArray();
+    }
+
+    private static boolean addWord(BranchFilters x, List<Integer> all) {
+        try {
+            int word = x.word(all.size());
+            for (int i = 0; i < 4; i++) {
+                all.add(word >>> 8 * i & 0xFF);
+            }
+            return true;
+        } catch (IndexOutOfBoundsException e) {
+            return false;
+        }
+    }
+
+    static String output(BranchFilters x) {
+        return hex(outputs(x));
     }
 
     static int[] bytes(String hex) {
@@ -108,7 +156,7 @@ final class Check {
         return bytes;
     }
 
-    static String hex(int[] bytes) {
+    static String hex(int... bytes) {
         StringBuilder text = new StringBuilder();
         for (int b : bytes) {
             text.append(text.length() == 0 ? "" : " ").append(String.format("%02X", b));
@@ -123,5 +171,14 @@ final class Check {
             text.append(what == 0 ? "" : " ").append(x.count(filter, what));
         }
         return text.toString();
+    }
+
+    /** What the call answers, or the name of what it throws. */
+    static String answer(IntSupplier call) {
+        try {
+            return Integer.toString(call.getAsInt());
+        } catch (RuntimeException e) {
+            return e.getClass().getSimpleName();
+        }
     }
 }
