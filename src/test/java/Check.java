@@ -4,6 +4,8 @@ import java.util.function.IntSupplier;
 
 /** What the tests share: comparing, feeding bytes that are written in hex, and looking at all that came out. */
 final class Check {
+    private static final int MOST = 2000;
+
     private int wrong = 0;
     private String sentence = "";
 
@@ -122,11 +124,12 @@ final class Check {
     /** All bytes of the output, by words as far as they go: an object has 512 calls alone. */
     static int[] outputs(BranchFilters x) {
         List<Integer> all = new ArrayList<>();
-        while (addWord(x, all)) {
-            continue;
+        boolean more = true;
+        while (more && all.size() <= MOST) {
+            more = addWord(x, all);
         }
-        for (int b = x.output(all.size()); b != BranchFilters.NONE; b = x.output(all.size())) {
-            all.add(b);
+        for (int i = 0; i < 4 && x.output(all.size()) != BranchFilters.NONE; i++) {
+            all.add(x.output(all.size()));
         }
         return all.stream().mapToInt(b -> b).toArray();
     }

@@ -192,6 +192,11 @@ public final class Kind2X86Test {
         check.thereAndBack(2, 0, "E8 FF FF FE 00", "E8 04 00 FF 00", 1);
         check.thereAndBack(2, 0, "E8 00 00 00 00", "E8 05 00 00 00", 1);
         check.thereAndBack(2, 0, "E8 90 90 90 E8 F6 00 00 00", "E8 90 90 90 E8 FF 00 00 00", 1);
+        // With d from 4 on nothing is left of a MASK of 1, and above 5 it is 0 anyway.
+        check.thereAndBack(2, 0, "E8 90 90 90 E8 FF FF FE 00", "E8 90 90 90 E8 08 00 FF 00", 1);
+        check.thereAndBack(2, 0, "E8 90 90 90 91 E8 FF FF FE 00", "E8 90 90 90 91 E8 09 00 FF 00", 1);
+        check.thereAndBack(2, 0, "E8 90 90 90 91 92 E8 FF FF FE 00", "E8 90 90 90 91 92 E8 0A 00 FF 00", 1);
+        check.thereAndBack(2, 0, "E8 90 90 90 91 92 93 E8 FF FF FE 00", "E8 90 90 90 91 92 93 E8 0B 00 FF 00", 1);
     }
 
     private static void bitTwentyFourFillsTheHighestByte(Check check) {
