@@ -4,6 +4,13 @@ import java.util.function.IntSupplier;
 
 /** What the tests share: comparing, feeding bytes that are written in hex, and looking at all that came out. */
 final class Check {
+    // Bytes that each kind finds branches in.
+    static final String CODE = "E8 E8 11 22 33 00 EB EB 48 00 12 01 00 F0 12 F8 40 01 02 03 7F FF FE FD "
+            + "97 00 00 00 E7 80 10 20 EF 00 01 02 10 20 30 EB E9 00 00 00 FF 90 90 E8 01 02 03 00 "
+            + "6F 00 17 01 00 00 03 31 41 51 00 F7 FF FF 4B FF "
+            + "EF 02 30 40 97 00 00 10 E7 80 F0 FF 48 01 02 05 00 F1 22 FB 7F C0 10 20 E8 E9 E8 11 22 33 44 00 "
+            + "E8 90 90 E8 F7 00 00 00 11 22 33 EB 00 F0 00 F8 E8 00 EB 97 02 00 00 83 FF 02 00 40 00 00 10 E8";
+
     private static final int MOST = 2000;
 
     private int wrong = 0;
@@ -100,6 +107,16 @@ final class Check {
         return x;
     }
 
+    /** A new object with these four kinds. */
+    static BranchFilters chain(int first, int second, int third, int fourth) {
+        BranchFilters x = new BranchFilters();
+        x.filter(0, first, 1);
+        x.filter(1, second, 1);
+        x.filter(2, third, 1);
+        x.filter(3, fourth, 1);
+        return x;
+    }
+
     /** Feeds all bytes in pieces of the size told, and answers what the last feed answered. */
     static int feed(BranchFilters x, int[] bytes, int piece) {
         int answer = 0;
@@ -174,6 +191,10 @@ final class Check {
             text.append(what == 0 ? "" : " ").append(x.count(filter, what));
         }
         return text.toString();
+    }
+
+    static String allCounts(BranchFilters x) {
+        return counts(x, 0) + " | " + counts(x, 1) + " | " + counts(x, 2) + " | " + counts(x, 3);
     }
 
     /** What the call answers, or the name of what it throws. */

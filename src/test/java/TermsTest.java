@@ -1,19 +1,7 @@
-import java.util.ArrayList;
-import java.util.List;
-
-/** The first lines and the section "Terms" of the document, but for the kinds: sentence by sentence, at the edges. */
+/** The section "Terms" of the document, but for the kinds: sentence by sentence, at the edges. */
 public final class TermsTest {
-    // Bytes that each kind finds branches in.
-    private static final String CODE = "E8 E8 11 22 33 00 EB EB 48 00 12 01 00 F0 12 F8 40 01 02 03 7F FF FE FD "
-            + "97 00 00 00 E7 80 10 20 EF 00 01 02 10 20 30 EB E9 00 00 00 FF 90 90 E8 01 02 03 00 "
-            + "6F 00 17 01 00 00 03 31 41 51 00 F7 FF FF 4B FF "
-            + "EF 02 30 40 97 00 00 10 E7 80 F0 FF 48 01 02 05 00 F1 22 FB 7F C0 10 20 E8 E9 E8 11 22 33 44 00 "
-            + "E8 90 90 E8 F7 00 00 00 11 22 33 EB 00 F0 00 F8 E8 00 EB 97 02 00 00 83 FF 02 00 40 00 00 10 E8";
-
     public static void main(String[] args) {
         Check check = new Check();
-        fiveHundredAndTwelveCalls(check);
-        howeverTheyAreCut(check);
         fourFilters(check);
         encodingGoesFromZeroToThree(check);
         decodingGoesFromThreeToZero(check);
@@ -31,77 +19,15 @@ public final class TermsTest {
         check.end();
     }
 
-    private static BranchFilters chain(int first, int second, int third, int fourth) {
-        BranchFilters x = new BranchFilters();
-        x.filter(0, first, 1);
-        x.filter(1, second, 1);
-        x.filter(2, third, 1);
-        x.filter(3, fourth, 1);
-        return x;
-    }
-
-    private static String allCounts(BranchFilters x) {
-        return Check.counts(x, 0) + " | " + Check.counts(x, 1) + " | " + Check.counts(x, 2) + " | " + Check.counts(x, 3);
-    }
-
-    // 4 for the chain, 1 begin, 125 feeds, 1 finish, and 381 looks at the output: the last one is the 512th.
-    private static void fiveHundredAndTwelveCalls(Check check) {
-        check.sentence("An object is used for at most 512 calls after it has been made");
-        int[] code = Check.bytes(CODE);
-        BranchFilters x = chain(2, 7, 4, 1);
-        x.begin(-1000, true);
-        List<Integer> came = new ArrayList<>();
-        for (int i = 0; i < 2000; i++) {
-            came.add(code[i % code.length] + i / 50 & 0xFF);
-        }
-        Check.feed(x, came.stream().mapToInt(b -> b).toArray(), 16);
-        List<Integer> due = Reference.run(new int[] {2, 7, 4, 1}, new int[] {1, 1, 1, 1}, -1000, true, came, true, new String[4]);
-        check.same("finish", x.finish(), 2000);
-        for (int k = 2000 - 381; k < 2000; k++) {
-            check.same("output(" + k + ")", x.output(k), due.get(k));
-        }
-    }
-
-    private static void howeverTheyAreCut(Check check) {
-        check.sentence("bytes come in pieces, and what comes out is the same however they are cut");
-        int[][] chains = {{0, 0, 0, 0}, {1, 0, 0, 0}, {2, 0, 0, 0}, {3, 0, 0, 0}, {4, 0, 0, 0}, {5, 0, 0, 0}, {6, 0, 0, 0},
-            {7, 0, 0, 0}, {2, 3, 4, 1}, {7, 7, 7, 7}, {1, 2, 7, 4}, {2, 2, 2, 2}, {5, 6, 7, 2}};
-        for (int[] kinds : chains) {
-            for (int way = 0; way < 2; way++) {
-                String due = cut(kinds, way == 0, 16, 16);
-                for (int first = 1; first <= 16; first++) {
-                    check.same("pieces of " + first, cut(kinds, way == 0, first, first), due);
-                    check.same("pieces of " + first + " and 1", cut(kinds, way == 0, first, 1), due);
-                    check.same("pieces of " + first + " and 0", cut(kinds, way == 0, first, 0), due);
-                }
-            }
-        }
-    }
-
-    /** What comes out, and the counts, if pieces of the two sizes come in turn. */
-    private static String cut(int[] kinds, boolean encoding, int first, int second) {
-        int[] code = Check.bytes(CODE);
-        BranchFilters x = chain(kinds[0], kinds[1], kinds[2], kinds[3]);
-        x.begin(-60, encoding);
-        int from = 0;
-        for (int i = 0; from < code.length; i++) {
-            int many = Math.min(i % 2 == 0 ? first : second, code.length - from);
-            Check.feedPiece(x, code, from, many);
-            from += many;
-        }
-        String before = allCounts(x);
-        return before + " : " + x.finish() + " : " + Check.output(x) + " : " + allCounts(x);
-    }
-
     private static void fourFilters(Check check) {
         check.sentence("A CHAIN has four FILTERS, 0 .. 3.");
-        BranchFilters x = chain(4, 5, 6, 7);
-        check.same("their kinds", allCounts(x), "4 1 0 0 0 0 | 5 1 0 0 0 0 | 6 1 0 0 0 0 | 7 1 0 0 0 0");
+        BranchFilters x = Check.chain(4, 5, 6, 7);
+        check.same("their kinds", Check.allCounts(x), "4 1 0 0 0 0 | 5 1 0 0 0 0 | 6 1 0 0 0 0 | 7 1 0 0 0 0");
         for (int filter : new int[] {-1, 4, Integer.MIN_VALUE, Integer.MAX_VALUE}) {
             check.illegalArgument("filter " + filter, () -> x.filter(filter, 0, 1));
             check.illegalArgument("count of " + filter, () -> x.count(filter, 0));
         }
-        check.same("their kinds", allCounts(x), "4 1 0 0 0 0 | 5 1 0 0 0 0 | 6 1 0 0 0 0 | 7 1 0 0 0 0");
+        check.same("their kinds", Check.allCounts(x), "4 1 0 0 0 0 | 5 1 0 0 0 0 | 6 1 0 0 0 0 | 7 1 0 0 0 0");
     }
 
     // ARM makes 10 to 12 before or behind DELTA; where it stands behind, b3 must become EB first.
@@ -109,10 +35,10 @@ public final class TermsTest {
         check.sentence("ENCODING, what comes in goes through FILTER 0 first, what that gives through 1, and so on");
         int[][] armFirst = {{3, 1, 0, 0}, {3, 0, 1, 0}, {3, 0, 0, 1}, {0, 3, 1, 0}, {0, 3, 0, 1}, {0, 0, 3, 1}};
         for (int[] k : armFirst) {
-            BranchFilters x = chain(k[0], k[1], k[2], k[3]);
+            BranchFilters x = Check.chain(k[0], k[1], k[2], k[3]);
             Check.feed(x, "10 20 30 EB");
             check.same("ARM, DELTA", Check.output(x), "12 0E 10 BB");
-            x = chain(k[3], k[2], k[1], k[0]);
+            x = Check.chain(k[3], k[2], k[1], k[0]);
             Check.feed(x, "10 20 30 1B");
             check.same("DELTA, ARM", Check.output(x), "12 10 10 EB");
         }
@@ -122,11 +48,11 @@ public final class TermsTest {
         check.sentence("DECODING through 3 first, then 2, and so on");
         int[][] armFirst = {{3, 1, 0, 0}, {3, 0, 1, 0}, {3, 0, 0, 1}, {0, 3, 1, 0}, {0, 3, 0, 1}, {0, 0, 3, 1}};
         for (int[] k : armFirst) {
-            BranchFilters x = chain(k[0], k[1], k[2], k[3]);
+            BranchFilters x = Check.chain(k[0], k[1], k[2], k[3]);
             x.begin(0, false);
             Check.feed(x, "12 0E 10 BB");
             check.same("DELTA back, ARM back", Check.output(x), "10 20 30 EB");
-            x = chain(k[3], k[2], k[1], k[0]);
+            x = Check.chain(k[3], k[2], k[1], k[0]);
             x.begin(0, false);
             Check.feed(x, "12 10 10 EB");
             check.same("ARM back, DELTA back", Check.output(x), "10 20 30 1B");
@@ -137,7 +63,7 @@ public final class TermsTest {
         check.sentence("All bytes that come out of the last one are THE OUTPUT, at most 2000.");
         for (int kind = 0; kind < 8; kind++) {
             for (int way = 0; way < 2; way++) {
-                BranchFilters x = chain(kind, kind, kind, kind);
+                BranchFilters x = Check.chain(kind, kind, kind, kind);
                 x.begin(0, way == 0);
                 for (int i = 0; i < 125; i++) {
                     x.feed(16, 0, 0, 0, 0);
@@ -154,7 +80,7 @@ public final class TermsTest {
 
     private static void outputOfTheLastOneAlone(Check check) {
         check.sentence("All bytes that come out of the last one are THE OUTPUT");
-        BranchFilters x = chain(0, 0, 0, 7);
+        BranchFilters x = Check.chain(0, 0, 0, 7);
         check.same("feed", Check.feed(x, "01 02 03 04 05 06 07"), 0);
         check.same("output(0)", x.output(0), BranchFilters.NONE);
         check.same("given before the last", x.count(2, 3), 7);
@@ -172,7 +98,7 @@ public final class TermsTest {
             "4B FF FF FD 48 00 00 01 48 00 00 05"};
         for (int i = 0; i < starts.length; i++) {
             for (int piece = 1; piece <= 16; piece++) {
-                BranchFilters x = chain(2, 7, 5, 4);
+                BranchFilters x = Check.chain(2, 7, 5, 4);
                 x.begin(starts[i], true);
                 Check.feed(x, Check.bytes("48 00 00 01 48 00 00 01 48 00 00 01"), piece);
                 x.finish();
@@ -188,7 +114,7 @@ public final class TermsTest {
         check.thereAndBack(7, 0, "01 00 EF 00 00 00 97 00 00 00 E7 80 00 00 EF 00 00 00 00 00 00 00",
                 "01 00 EF 00 20 00 97 00 00 00 E7 80 60 00 EF 00 E0 00 00 00 00 00", 3);
         // It goes on counting over many pieces: the last of 500 jumps stands at 1996.
-        BranchFilters x = chain(5, 0, 0, 0);
+        BranchFilters x = Check.chain(5, 0, 0, 0);
         for (int i = 0; i < 125; i++) {
             x.feed(16, 0x48000001, 0x48000001, 0x48000001, 0x48000001);
         }
@@ -201,7 +127,7 @@ public final class TermsTest {
         int[] needed = {1, 1, 5, 4, 4, 4, 4, 8};
         int[] step = {1, 1, 1, 4, 2, 4, 4, 2};
         for (int kind = 0; kind < 8; kind++) {
-            BranchFilters x = chain(kind, 0, 0, 0);
+            BranchFilters x = Check.chain(kind, 0, 0, 0);
             for (int came = 1; came <= 40; came++) {
                 int given = came < needed[kind] ? 0 : ((came - needed[kind]) / step[kind] + 1) * step[kind];
                 String what = "kind " + kind + ", byte " + came;
@@ -218,8 +144,8 @@ public final class TermsTest {
         int[] most = {0, 0, 4, 3, 3, 3, 3, 7};
         for (int kind = 0; kind < 8; kind++) {
             int seen = 0;
-            BranchFilters x = chain(kind, 0, 0, 0);
-            for (int b : Check.bytes(CODE)) {
+            BranchFilters x = Check.chain(kind, 0, 0, 0);
+            for (int b : Check.bytes(Check.CODE)) {
                 x.feed(1, b << 24, 0, 0, 0);
                 seen = Math.max(seen, x.count(0, 2));
             }
@@ -229,13 +155,13 @@ public final class TermsTest {
 
     private static void nothingComesNothingGoes(Check check) {
         check.sentence("gives as many as it can each time that some come in");
-        BranchFilters x = chain(2, 7, 4, 3);
+        BranchFilters x = Check.chain(2, 7, 4, 3);
         Check.feed(x, "E8 E8 11 22 33 44 55 66 77 88 99 AA BB CC DD EE");
-        String before = allCounts(x) + Check.output(x);
+        String before = Check.allCounts(x) + Check.output(x);
         for (int i = 0; i < 5; i++) {
             x.feed(0, -1, -1, -1, -1);
         }
-        check.same("behind feeds of none", allCounts(x) + Check.output(x), before);
+        check.same("behind feeds of none", Check.allCounts(x) + Check.output(x), before);
     }
 
     private static void finishGivesTheRestAsItIs(Check check) {
@@ -255,20 +181,20 @@ public final class TermsTest {
 
     private static void finishInTheOrderInWhichBytesGo(Check check) {
         check.sentence("(the next one first takes it in as bytes that came, then gives what it HOLDS)");
-        BranchFilters x = chain(7, 2, 0, 0);
+        BranchFilters x = Check.chain(7, 2, 0, 0);
         check.same("feed", Check.feed(x, "E8 00 00 00 00 E8 00"), 0);
         check.same("finish", x.finish(), 7);
         check.same("X86 behind RISC", Check.output(x), "E8 05 00 00 00 E8 00");
-        check.same("counts", allCounts(x), "7 1 0 7 0 0 | 2 1 0 7 1 0 | 0 1 0 7 0 0 | 0 1 0 7 0 0");
-        x = chain(0, 0, 2, 7);
+        check.same("counts", Check.allCounts(x), "7 1 0 7 0 0 | 2 1 0 7 1 0 | 0 1 0 7 0 0 | 0 1 0 7 0 0");
+        x = Check.chain(0, 0, 2, 7);
         x.begin(0, false);
         check.same("feed, decoding", Check.feed(x, "E8 05 00 00 00 E8 05"), 0);
         check.same("finish, decoding", x.finish(), 7);
         check.same("X86 behind RISC, decoding", Check.output(x), "E8 00 00 00 00 E8 05");
-        check.same("counts, decoding", allCounts(x), "0 1 0 7 0 0 | 0 1 0 7 0 0 | 2 1 0 7 1 0 | 7 1 0 7 0 0");
-        x = chain(2, 3, 1, 0);
+        check.same("counts, decoding", Check.allCounts(x), "0 1 0 7 0 0 | 0 1 0 7 0 0 | 2 1 0 7 1 0 | 7 1 0 7 0 0");
+        x = Check.chain(2, 3, 1, 0);
         check.same("feed", Check.feed(x, "00 00 00 EB 00 00"), 0);
-        check.same("ARM holds two", allCounts(x), "2 1 4 2 0 0 | 3 1 2 0 0 0 | 1 1 0 0 0 0 | 0 1 0 0 0 0");
+        check.same("ARM holds two", Check.allCounts(x), "2 1 4 2 0 0 | 3 1 2 0 0 0 | 1 1 0 0 0 0 | 0 1 0 0 0 0");
         check.same("finish", x.finish(), 6);
         check.same("what ARM held and what X86 held is one jump", Check.output(x), "02 FE 00 EB 15 00");
     }
@@ -276,16 +202,16 @@ public final class TermsTest {
     private static void finishOfFourThatHold(Check check) {
         check.sentence("At the FINISH each, in the order in which bytes go, gives what it still HOLDS as it is "
                 + "(the next one first takes it in as bytes that came, then gives what it HOLDS)");
-        BranchFilters x = chain(7, 7, 7, 7);
+        BranchFilters x = Check.chain(7, 7, 7, 7);
         Check.feed(x, new int[30], 15);
-        check.same("before", allCounts(x), "7 1 6 24 0 0 | 7 1 6 18 0 0 | 7 1 6 12 0 0 | 7 1 6 6 0 0");
+        check.same("before", Check.allCounts(x), "7 1 6 24 0 0 | 7 1 6 18 0 0 | 7 1 6 12 0 0 | 7 1 6 6 0 0");
         check.same("finish", x.finish(), 30);
-        check.same("behind", allCounts(x), "7 1 0 30 0 0 | 7 1 0 30 0 0 | 7 1 0 30 0 0 | 7 1 0 30 0 0");
-        x = chain(7, 7, 7, 7);
+        check.same("behind", Check.allCounts(x), "7 1 0 30 0 0 | 7 1 0 30 0 0 | 7 1 0 30 0 0 | 7 1 0 30 0 0");
+        x = Check.chain(7, 7, 7, 7);
         Check.feed(x, new int[31], 16);
         check.same("seven held", x.count(0, 2), 7);
         check.same("finish", x.finish(), 31);
-        x = chain(7, 7, 7, 7);
+        x = Check.chain(7, 7, 7, 7);
         Check.feed(x, "EF 00 00 00 01 02 03");
         check.same("finish of seven", x.finish(), 7);
         check.same("as they are", Check.output(x), "EF 00 00 00 01 02 03");
@@ -294,11 +220,11 @@ public final class TermsTest {
     private static void finishWithNothingHeld(Check check) {
         check.sentence("At the FINISH each, in the order in which bytes go, gives what it still HOLDS as it is");
         for (int kind = 0; kind < 8; kind++) {
-            BranchFilters x = chain(kind, kind, kind, kind);
+            BranchFilters x = Check.chain(kind, kind, kind, kind);
             check.same("finish of kind " + kind, x.finish(), 0);
             check.same("output(0)", x.output(0), BranchFilters.NONE);
         }
-        BranchFilters x = chain(3, 5, 6, 0);
+        BranchFilters x = Check.chain(3, 5, 6, 0);
         check.same("feed", Check.feed(x, "00 00 00 EB"), 4);
         check.same("finish", x.finish(), 4);
         check.same("output", Check.output(x), "02 00 00 EB");
